@@ -1309,14 +1309,13 @@ public final class TwinBoot {
             return flash.holdsImage(slot) && flash.cells[slot][0] >= ledger.floor && !ledger.isBad(slot);
         }
 
-        // The journal's actions answer false if the power was cut; else the ledger is read again behind them.
+        // The journal's actions answer false if the power was cut.
 
         private boolean formatJournal() {
             if (!flash.eraseJournalPage(0) || !flash.write(JOURNAL_ROW, 0, Ledger.wordOf(HEAD_KIND, 0))) {
                 return false;
             }
             note(EVENT_FORMATTED, 0);
-            ledger.readFrom(flash);
             return true;
         }
 
@@ -1337,7 +1336,6 @@ public final class TwinBoot {
                 return false;
             }
             note(EVENT_MOVED, target);
-            ledger.readFrom(flash);
             return true;
         }
 
@@ -1363,14 +1361,15 @@ public final class TwinBoot {
             return count;
         }
 
+        /** Needs a ledger that has just been read, and reads it again behind the record. */
         private boolean appendRecord(int kind, int value) {
-            ledger.readFrom(flash);
-            if (ledger.page == NONE) {
-                if (!formatJournal()) {
+            boolean hasPage = ledger.page != NONE;
+            if (!hasPage || ledger.next >= flash.journal) {
+                boolean hasRoom = hasPage ? moveRecords() : formatJournal();
+                if (!hasRoom) {
                     return false;
                 }
-            } else if (ledger.next >= flash.journal && !moveRecords()) {
-                return false;
+                ledger.readFrom(flash);
             }
             if (!flash.write(JOURNAL_ROW + ledger.page, ledger.next, Ledger.wordOf(kind, value))) {
                 return false;
@@ -1395,8 +1394,11 @@ public final class TwinBoot {
         int startUp() {
             switchOff();
             ledger.readFrom(flash);
-            if (ledger.page == NONE && !formatJournal()) {
-                return losePower();
+            if (ledger.page == NONE) {
+                if (!formatJournal()) {
+                    return losePower();
+                }
+                ledger.readFrom(flash);
             }
             int fresh = ledger.fresh;
             if (fresh != NONE) {
@@ -1469,7 +1471,11 @@ public final class TwinBoot {
             if (state == STATE_OFF || ledger.page == NONE) {
                 return WRONG_STATE;
             }
-            return moveRecords() ? ledger.page : losePower();
+            if (!moveRecords()) {
+                return losePower();
+            }
+            ledger.readFrom(flash);
+            return ledger.page;
         }
 
         int confirmRunning() {

@@ -8,6 +8,7 @@ public final class LogTest {
         longLog();
         wrongArguments();
         snapshots();
+        snapshotsContainTheLog();
         snapshotsContainEverything();
         Check.end();
     }
@@ -118,6 +119,26 @@ public final class LogTest {
         boot.saveSnapshot(1);
         boot.mirror();
         Check.same("restoreSnapshot(1) of a later one", 13, boot.restoreSnapshot(1));
+    }
+
+    private static void snapshotsContainTheLog() {
+        TwinBoot boot = Check.device(TEXT);
+        boot.boot();
+        Check.stage(boot, 7);
+        boot.update(3);
+        boot.boot();
+        boot.saveSnapshot(0);
+        Check.load(boot, "flash 16 4 12");
+        for (int i = 0; i < 5; i++) {
+            boot.boot();
+        }
+        boot.restoreSnapshot(0);
+        entry(boot, 0, 0, 0, 0);
+        entry(boot, 1, 2, 1, 9);
+        entry(boot, 2, 0, 1, 10);
+        boot.boot();
+        entry(boot, 3, 4, 1, 11);
+        entry(boot, 4, 0, 0, 11);
     }
 
     private static void snapshotsContainEverything() {

@@ -15,6 +15,7 @@ public final class PredictionsTest {
         bootWould();
         safeUpdate();
         unsafeUpdate();
+        unsafeUpdateOfWornPages();
         updateOfNewSlot();
         updateWithFullJournal();
         errors();
@@ -143,6 +144,20 @@ public final class PredictionsTest {
         Check.same("toldAfterCut(3, 0, 1) of unsafe", 0, boot.toldAfterCut(3, 0, 1));
     }
 
+    /** A thrifty update would spare the worn page 1, and its image would be whole. */
+    private static void unsafeUpdateOfWornPages() {
+        TwinBoot boot = Check.device("flash 16 4 12;image 0 2 10 21;good 0;life 1");
+        boot.boot();
+        boot.mirror();
+        boot.damage(0, 3, 65535);
+        Check.stage(boot, 6, 17);
+        Check.same("cutsToNew(4) of worn pages", 0, boot.cutsToNew(4));
+        Check.same("slotAfterCut(4, 9) of worn pages", NONE, boot.slotAfterCut(4, 9));
+        Check.same("thriftyPages() of worn pages", 1, boot.thriftyPages());
+        boot.thriftyUpdate(4);
+        Check.same("isWhole(1) of a thrifty update of worn pages", true, boot.isWhole(1));
+    }
+
     private static void updateOfNewSlot() {
         TwinBoot boot = pending();
         // four erasures, one word, word 1, 2 and 0, and NEW
@@ -245,6 +260,10 @@ public final class PredictionsTest {
             Check.stage(boot, 6, 8);
             Check.same("updatesLeft(4) of even words", 60, boot.updatesLeft(4));
         }
+        TwinBoot odd = Check.device(ONE + ";life 3");
+        odd.boot();
+        Check.stage(odd, 6, 9);
+        Check.same("updatesLeft(4) of an odd word in a page behind the first", 6, odd.updatesLeft(4));
         TwinBoot fifty = Check.device(ONE + ";life 29");
         fifty.boot();
         Check.stage(fifty, 7);

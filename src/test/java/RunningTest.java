@@ -488,5 +488,20 @@ public final class RunningTest {
         empty.damageJournal(0, 0, 65535);
         Check.same("recover(0, 1) formats the journal", 4 + 1 + 3 + 2 + 1, empty.recover(0, 1));
         journal("recover(0, 1)", empty, 0, 0, 24582, 8194, 65535);
+        for (int power = 8; power <= 10; power++) {
+            TwinBoot cut = new TwinBoot();
+            cut.boot();
+            Check.stage(cut, 3);
+            cut.damageJournal(0, 0, 65535);
+            cut.setPower(power);
+            Check.same("recover(0, 1) with power " + power, CUT, cut.recover(0, 1));
+            Check.same("operations() with power " + power, power + 1, cut.operations());
+            Check.same("eventCount(6) with power " + power, power == 10 ? 1 : 0, cut.eventCount(6));
+        }
+        TwinBoot forgets = Check.device("flash 16 4 12;floor 5");
+        forgets.boot();
+        Check.stage(forgets, 3);
+        forgets.damageJournal(0, 1, 65535);
+        Check.same("recover(0, 4) when FLOOR is gone", 8 + 1, forgets.recover(0, 4));
     }
 }

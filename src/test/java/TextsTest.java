@@ -106,6 +106,8 @@ public final class TextsTest {
         text("Flash 16 4 12", -100, 1);
         text(" flas 16 4 12", -101, 1);
         text("flashy 16 4 12", -100, 1);
+        text("xlash 16 4 12", -100, 1);
+        text("flashz 16 4 12", -100, 1);
         text("16 4 12", -100, 1);
         text("tries 2", -100, 1);
         text(PLAIN + " 13", -114, 1);
@@ -118,6 +120,8 @@ public final class TextsTest {
         text(PLAIN + ";flash 16 4 12", -114, 1);
         text(PLAIN + "; try 3", -115, 1);
         text(PLAIN + ";triess 3", -114, 1);
+        text(PLAIN + ";triesz 3", -114, 1);
+        text(PLAIN + ";aries 3", -114, 1);
         text(PLAIN + ";3", -114, 1);
         text(PLAIN + ";tries", -119, 1);
         text(PLAIN + ";tries;", -119, 1);
