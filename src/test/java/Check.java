@@ -12,6 +12,28 @@ final class Check {
     private Check() {
     }
 
+    /** One test for one sentence of the document: tells the sentence if an answer in it is wrong. */
+    static void edge(String sentence, Call test) {
+        int before = wrong;
+        int done = checked;
+        test.run();
+        if (checked == done) {
+            wrong++;
+            System.out.println("nothing is compared for this sentence");
+        }
+        if (wrong > before) {
+            System.out.println("  broken: " + sentence);
+        }
+    }
+
+    static void same(String call, String due, String got) {
+        checked++;
+        if (!due.equals(got)) {
+            wrong++;
+            System.out.println(call + " answered " + got + ", due is " + due);
+        }
+    }
+
     static void same(String call, long due, long got) {
         checked++;
         if (due != got) {

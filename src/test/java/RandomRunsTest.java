@@ -322,10 +322,24 @@ public final class RandomRunsTest {
             same("damage(" + row + ", " + index + ", " + mask + ")", () -> model.damage(row, index, mask),
                     () -> boot.damage(row, index, mask));
         } else {
+            putRecord();
+        }
+        if (oneOf(2)) {
             int index = oneOf(3) ? 0 : number(0, model.journal - 1);
             same("damageJournal(" + row + ", " + index + ", " + mask + ")",
                     () -> model.damageJournal(row, index, mask), () -> boot.damageJournal(row, index, mask));
         }
+    }
+
+    /** Damage can make an erased word a right record, and so states that the device does not come to by itself. */
+    private void putRecord() {
+        int page = random.nextInt(2);
+        int index = oneOf(4) ? 0 : random.nextInt(model.journal);
+        int kind = index == 0 ? 6 : 1 + random.nextInt(6);
+        int value = kind == 6 ? random.nextInt(256) : kind == 1 ? random.nextInt(8) : random.nextInt(2);
+        int mask = 65535 - Devices.record(kind, value);
+        same("damageJournal(" + page + ", " + index + ", " + mask + ")", () -> model.damageJournal(page, index, mask),
+                () -> boot.damageJournal(page, index, mask));
     }
 
     // ---- calls that change nothing
